@@ -3,7 +3,12 @@ public final class LifeTest {
     private static final String TOWN = "person a 5 8 1;person b 3 4 0;person c 10 0 2;person d 0 6 1;"
             + "owes a b 3;owes b c 2;owes c a 4;story s c 20 5;story t a 3 2;free c;false d;gift 1;ruin 2;";
 
+    private static final String EIGHT = "person a 1 1 1;person b 1 1 1;person c 1 1 1;person d 1 1 1;"
+            + "person e 1 1 1;person f 1 1 1;person g 1 1 1;person h 1 1 1;";
+
     public static void main(String[] args) {
+        newTowns();
+        eight();
         person();
         owes();
         story();
@@ -26,6 +31,52 @@ public final class LifeTest {
         for (int i = 0; i < wants.length; i++) {
             Kit.due(what + " person(" + p + ", " + i + ")", x.person(p, i), wants[i]);
         }
+    }
+
+    /** Nothing of an earlier TOWN, or of a text with a FAULT, is left in a new one. */
+    private static void newTowns() {
+        EarTown x = Kit.of(TOWN);
+        x.hear(0, 1, 1);
+        x.tell(2, 0, 0);
+        x.strike();
+        x.days(2);
+        Kit.town(x, TOWN + "person");
+        Kit.due("a FAULT leaves it", x.now(0), 2);
+        Kit.due("new", Kit.town(x, EIGHT + "story q h 0 0;"), 9);
+        Kit.due("gift", x.count(2), 0);
+        Kit.due("ruin", x.count(3), 10);
+        nowIs("new", x, 0, 0, 0, 0, 0, 8, 0, 0);
+        for (int p = 0; p < 8; p++) {
+            row("new", x, p, 1, 1, 1, 1, 0, 0, 0, 0, 0, 0, 0);
+        }
+        Kit.due("its story's owner", x.story(0, 0), 7);
+        Kit.due("worth nothing", x.story(0, 1), 0);
+        Kit.due("never told", x.story(0, 2), 0);
+        Kit.due("known to the owner alone", x.story(0, 3), 128);
+        Kit.due("old names are not told", Kit.book(x, "a tells b s;", 0), -2 - 10);
+        Kit.town(x, "");
+        Kit.due("empty", x.count(0) + x.count(1) + x.now(5), 0);
+        Kit.town(x, EIGHT);
+        x.image(0);
+        Kit.town(x, TOWN);
+        x.restore(0);
+        nowIs("restored", x, 0, 0, 0, 0, 0, 8, 0, 0);
+    }
+
+    private static void eight() {
+        EarTown x = Kit.of(EIGHT + "owes a h 9;owes h b 11;free h;");
+        row("eighth", x, 7, 1, 1, 1, 1, 1, 0, 0, 0, 0, 11, 9);
+        Kit.due("owes(7, 1)", x.owes(7, 1), 11);
+        Kit.due("next", x.next(), 7);
+        Kit.due("hear", x.hear(7, 6, 1), 0);
+        Kit.due("hear the eighth", x.hear(6, 7, 1), 0);
+        Kit.due("most(1)", x.most(1), 7);
+        Kit.due("days", x.days(1), 1);
+        Kit.due("ruined", x.person(7, 6), 1);
+        Kit.due("no ring", x.ring(), 0);
+        Kit.due("nobody is next", x.next(), -1);
+        Kit.dueThrow("person(8, 0)", () -> x.person(8, 0));
+        Kit.dueThrow("story(0, 0)", () -> x.story(0, 0));
     }
 
     private static void person() {
@@ -232,6 +283,7 @@ public final class LifeTest {
         x.days(1);
         Kit.due("ruined ones are left out", x.next(), -1);
         Kit.due("two were", x.now(4), 2);
+        Kit.due("the first", Kit.of("person a 5 0 0;person b 1 1 0;owes a b 1;").next(), 0);
         Kit.due("nobody", Kit.of("person a 5 0 0;").next(), -1);
         Kit.due("no ear, one hour", Kit.of("person a 5 1 0;person b 1 0 0;owes b a 1;ruin 99;").next(), 1);
     }
@@ -375,6 +427,8 @@ public final class LifeTest {
         saidIs(TOWN, "owes b", 0);
         saidIs(TOWN, "owes a", 2);
         saidIs(TOWN, "owes d");
+        saidIs("person a 1 1 1;person b 1 1 1;owes b a 1;", "owes a", 1);
+        saidIs(EIGHT, "not free", 0, 1, 2, 3, 4, 5, 6, 7);
         saidIs(TOWN, "need > 3", 0, 2);
         saidIs(TOWN, "need = 3", 1);
         saidIs(TOWN, "need < 3", 3);

@@ -109,6 +109,9 @@ public final class ReckonTest {
         hourIs(persons(4, "1 1 0"), 2, 101, 200, 103, 202);
         hourIs(persons(3, "1 1 0"), 1, 0, 102, 201);
         hourIs("person a 5 8 1;person b 3 4 0;person c 10 0 2;person d 0 6 1;false d;", 15, 101, 200, 103, 202);
+        hourIs("person a 9 0 0;person b 9 0 0;person c 0 1 0;person d 0 1 0;", 18, 102, 103, 200, 201);
+        hourIs("person a 9 0 0;person b 1 0 0;person c 0 1 0;person d 8 0 0;person e 0 1 0;", 17, 102, 0, 200, 104, 203);
+        hourIs("person a 1 0 0;person b 0 1 0;", 1, 101, 200);
         hourIs(persons(8, "9 1 0"), 36, 101, 200, 103, 202, 105, 204, 107, 206);
         EarTown y = Kit.of("person a 50 1 0;person b 3 4 0;owes a b 11;");
         y.days(1);
@@ -156,6 +159,11 @@ public final class ReckonTest {
         pricesAre("person a 4 5 0;person b 0 3 0;", 9, 500, row(0, 4500), row(1, -1));
         pricesAre("person a 5 8 1;person b 3 4 0;person c 10 0 2;person d 0 6 1;", 1, 500,
                 row(250, 250, 0, 250), row(3, 3, 3, -1));
+        pricesAre("person a 1 0 0;person b 0 1 0;", 3, 1, row(0, 0), row(1, -1));
+        pricesAre("person a 2 0 0;person b 0 1 0;person c 0 2 0;", 3, 2, row(0, 3, 0), row(2, -1, -1));
+        pricesAre(persons(8, "1 24 0"), 1, 1, row(0, 0, 0, 0, 0, 0, 0, 0), row(1, 0, 0, 0, 0, 0, 0, 0));
+        pricesAre(persons(6, "3 0 0") + "person g 3 17 0;person h 0 21 0;", 4, 2,
+                row(0, 0, 0, 0, 0, 0, 4, 0), row(7, 7, 7, 7, 7, 7, 7, -1));
         EarTown y = Kit.of("person a 4 5 9;person b 0 9 0;");
         y.hear(1, 0, 3);
         Kit.due("ears as told", y.prices(1), 1);
@@ -176,6 +184,8 @@ public final class ReckonTest {
         griefIs(1, 2, 1, 2, 0, 1);
         griefIs(1, 12, 1, 2, 0, 1);
         griefIs(3, 0, 0, 5, 1, 1);
+        griefIs(3, 0, 0, 1, 1, 1);
+        griefIs(12, 12, 1, 1, 1, 1);
         griefIs(3, 1, 0, 5, 0, 1);
         griefIs(3, 3, 5, 5, 1, 1);
         griefIs(3, 2, 5, 5, 0, 1);
@@ -271,6 +281,14 @@ public final class ReckonTest {
         Kit.due("all know it", x.sold(3, 0), 0);
         Kit.due("best of nothing", x.best(1), 0);
         Kit.due("all stays", x.story(0, 2), 3);
+        EarTown z = Kit.of(persons(8, "9 9 1") + "story s h 1 0;story t h 1 0;story u h 1 0;story v h 1 0;"
+                + "story w h 1 0;story x h 1 0;story y h 1 0;story z h 9 0;");
+        Kit.due("the eighth", z.best(7), 7);
+        Kit.due("to seven", z.sold(7, 7), 63);
+        Kit.due("all but it", z.crowd(7, 9), 127);
+        Kit.due("the eighth too", z.crowd(0, 9), 254);
+        Kit.due("a sermon to seven", z.sermon(7, 127, 2), 14);
+        Kit.due("told to the eighth", z.tell(7, 0, 7), 9);
         EarTown y = Kit.of(persons(3, "1 1 1") + "story s a 10 0;story t a 12 4;story u a 10 0;");
         Kit.due("of like ones the first", y.best(0), 0);
     }
@@ -299,6 +317,8 @@ public final class ReckonTest {
         talkedIs(x, "ddd", -1, 0, 1, 1, 0, 2, 3);
         talkedIs(x, "ddddd", -1, 0, 1, 1, 0, 2, 3);
         talkedIs(x, "", -1, 0, 1, 1, 0, 2, 3);
+        talkedIs(x, "hacd", 5, 0, 1, 3, 0, 2, 1);
+        talkedIs(x, "dddd", 25);
         talkedIs(x, "maaa", 1, 0, 1, 3, 0, 2, 3, 0, 3, 3);
         Kit.town(x, persons(1, "0 0 0"));
         talkedIs(x, "d", 1);
