@@ -530,7 +530,8 @@ public final class EarTown {
 
     public int sentence() {
         openTape(SENTENCE_BYTES);
-        boolean read = draft.sentence.readSentence(reader, here.charter);
+        draft.sentence.clear();
+        boolean read = draft.sentence.readCond(reader, here.charter, 1) && reader.take(END);
         lastFault = reader.fault;
         if (!read) {
             return -1 - reader.place;
@@ -1056,6 +1057,7 @@ public final class EarTown {
             int c = text[place] & 255;
             if (isLetter(c) || isDigit(c)) {
                 stepOverRun();
+                key = kind == WORD ? keyOf(place, after) : NONE;
                 return;
             }
             after = place + 1;
@@ -1086,10 +1088,10 @@ public final class EarTown {
             after = size;
             for (int i = place; i < size; i++) {
                 int c = text[i] & 255;
-                if (isLetter(c)) {
+                if (c >= 'a' && c <= 'z') {
                     letters++;
                     letterBits = letterBits << 5 | c - 'a' + 1;
-                } else if (isDigit(c)) {
+                } else if (c >= '0' && c <= '9') {
                     digits++;
                     value = value * 10 + c - '0';
                 } else {
@@ -1100,7 +1102,6 @@ public final class EarTown {
             if (digits == 0 && letters <= 7) {
                 kind = WORD;
                 word = letterBits;
-                key = keyOf(place, after);
             } else if (letters == 0 && digits <= 3) {
                 kind = NUMBER;
                 number = value;
@@ -1155,8 +1156,9 @@ public final class EarTown {
             return false;
         }
 
-        boolean take(int sign) {
-            if (kind != sign) {
+        /** Goes behind a sign, or behind the end, where the next TOKEN is the end again. */
+        boolean take(int due) {
+            if (kind != due) {
                 return refused(CANT_COME);
             }
             step();
@@ -1547,18 +1549,7 @@ public final class EarTown {
             ones = other.ones;
         }
 
-        boolean readSentence(Reader reader, Charter charter) {
-            clear();
-            if (!readCond(reader, charter, 1)) {
-                return false;
-            }
-            if (reader.kind != END) {
-                return reader.refused(CANT_COME);
-            }
-            return true;
-        }
-
-        private boolean readCond(Reader reader, Charter charter, int depth) {
+        boolean readCond(Reader reader, Charter charter, int depth) {
             if (!readAll(reader, charter, depth)) {
                 return false;
             }
@@ -1604,7 +1595,7 @@ public final class EarTown {
             if (key == KEY_NOT) {
                 return readOne(reader, charter, depth + 1) && addStep(KEY_NOT, 0, 0);
             }
-            return readPlainOne(reader, charter, key);
+            return isMeasure(key) ? readMeasure(reader, key) : readPlainOne(reader, charter, key);
         }
 
         private static boolean beginsOne(int key) {
@@ -1617,9 +1608,6 @@ public final class EarTown {
         }
 
         private boolean readPlainOne(Reader reader, Charter charter, int key) {
-            if (isMeasure(key)) {
-                return readMeasure(reader, key);
-            }
             int number = 0;
             if (key == KEY_KNOWS) {
                 number = reader.takeStory(charter);
