@@ -183,10 +183,7 @@ public final class EarTown {
     }
 
     public int owes(int a, int b) {
-        if (!here.charter.hasPerson(a) || !here.charter.hasPerson(b)) {
-            return NONE;
-        }
-        return here.life.note(a, b);
+        return arePersons(a, b) ? here.life.note(a, b) : NONE;
     }
 
     public int story(int s, int what) throws NoSuchElementException {
@@ -293,7 +290,7 @@ public final class EarTown {
         return i >= 0 && i < ringSize && i < MOST ? ringRow[i] : NONE;
     }
 
-    /** Only HEARS and TELLS change what is owed, so that who is RUINED first is so at this DAY's end. */
+    /** DAYS leave what is owed as it is, so that who would be RUINED first would be at this DAY's end. */
     public int next() {
         for (int p = 0; p < here.charter.persons; p++) {
             if ((here.life.ruined >> p & 1) == 0 && here.life.owesTooMuch(p)) {
