@@ -1546,7 +1546,7 @@ public final class EarTown {
             ones = other.ones;
         }
 
-        boolean readCond(Reader reader, Charter charter, int depth) {
+        private boolean readCond(Reader reader, Charter charter, int depth) {
             if (!readAll(reader, charter, depth)) {
                 return false;
             }
