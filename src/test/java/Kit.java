@@ -6,6 +6,8 @@ final class Kit {
     static final int THROWN = Integer.MIN_VALUE;
     private static int wrong = 0;
     private static int asked = 0;
+    /** What the answers are held to from here on, told ahead of each that is not as due. */
+    private static String heldTo = "";
 
     private Kit() {
     }
@@ -18,12 +20,21 @@ final class Kit {
         asked++;
         if (got != want) {
             wrong++;
-            System.out.println(what + " answered " + got + ", due is " + want);
+            System.out.println(heldTo + what + " answered " + got + ", due is " + want);
         }
     }
 
     static void due(String what, boolean got, boolean want) {
         due(what, got ? 1 : 0, want ? 1 : 0);
+    }
+
+    static void holdTo(String words) {
+        heldTo = words;
+    }
+
+    /** How many answers were asked so far. */
+    static int asked() {
+        return asked;
     }
 
     static void dueThrow(String what, Call call) {

@@ -44,7 +44,7 @@ public final class ModelTest {
             text(townText());
             check("town()", x.town(), m.town());
         }
-        while (calls < 500 && !wrong) {
+        while (calls < 420 && !wrong) {
             step();
         }
     }
