@@ -1237,6 +1237,24 @@ final class EdgesOfLife {
         nows("eight behind none", x, 0, 0, 0, 0, 0, 8, 0, 0);
     }
 
+    /** What newTown() had told of three PERSONS, however many the TOWN has now. */
+    private static void toldStays(EarTown x) {
+        String in = " stays with " + x.count(0) + " PERSONS";
+        Kit.due("ringAt(2)" + in, x.ringAt(2), 2);
+        Kit.due("ringAt(3)" + in, x.ringAt(3), -1);
+        Kit.due("with(1)" + in, x.with(1), 200);
+        Kit.due("with(2)" + in, x.with(2), 0);
+        Kit.due("with(3)" + in, x.with(3), -1);
+        Kit.due("price(1)" + in, x.price(1), 2);
+        Kit.due("price(2)" + in, x.price(2), 0);
+        Kit.due("price(3)" + in, x.price(3), -1);
+        Kit.due("wants(1)" + in, x.wants(1), 0);
+        Kit.due("wants(3)" + in, x.wants(3), -1);
+        Kit.due("struck()" + in, x.struck(), 3);
+        Kit.due("talk(0, 2)" + in, x.talk(0, 2), 2);
+        Kit.due("booked(2)" + in, x.booked(2), 2);
+    }
+
     private static void newTown() {
         Doc.holds(4, "A new TOWN: DAY 0, no SENTENCE; nothing can be undone (what other calls told last stays).");
         EarTown x = Kit.of("person a 4 5 0;person b 2 3 0;person c 0 9 0;owes a b 1;owes b c 1;owes c a 1;story s a 5 1;free a;false b;gift 1;ruin 1;");
@@ -1259,13 +1277,11 @@ final class EdgesOfLife {
         Kit.due("no SENTENCE", x.said(-1), -1);
         Kit.due("nothing can be undone", x.undo(), -1);
         smallerTown();
-        Kit.due("ringAt() stays", x.ringAt(2), 2);
-        Kit.due("with() stays", x.with(1), 200);
-        Kit.due("price() stays", x.price(1), 2);
-        Kit.due("wants() stays", x.wants(1), 0);
-        Kit.due("struck() stays", x.struck(), 3);
-        Kit.due("talk() stays", x.talk(0, 2), 2);
-        Kit.due("booked() stays", x.booked(2), 2);
+        toldStays(x);
+        Kit.town(x, "person z 7 6 5;");
+        toldStays(x);
+        Kit.town(x, eightPersons());
+        toldStays(x);
         Kit.due("what is kept stays", x.restore(0), true);
         Kit.due("its gift", x.count(2), 1);
 
